@@ -48,6 +48,18 @@ public final class BestTest {
         z.put(0, 2, 8);
         // at 2 it is 8 less 8, which is none; at 4 it would be 9 less 8
         Due.is("sow(20, 1)", z.sow(20, 1), 0);
+        // the ends: sown on yard 0, and on 39
+        DunesWalked v = new DunesWalked();
+        Due.law(v, "walks 0;grows 0-9*clover;needs 1;");
+        Due.dune(v, 0, 0, 0, 3, 5);
+        Due.houses(v, 0);
+        Due.is("sow(2, 0) on yard 0", v.sow(2, 0), 0);
+        v.yard(0, 0, 0);
+        Due.houses(v, 39);
+        v.put(0, 0, 39);
+        v.put(0, 1, 1);
+        Due.is("sow(2, 0) on yard 39", v.sow(2, 0), 39);
+        Due.is("sow(2, 1) on yard 39", v.sow(2, 1), 0);
         // a blond one is slower when it is high, and lies the longer on a house: sowing makes it go on
         DunesWalked w = new DunesWalked();
         Due.dune(w, 2, 0, 9, 3, 58);
@@ -78,6 +90,17 @@ public final class BestTest {
         Due.is("move(0, 0)", x.move(0, 0), -1);
         Due.is("move(0, 1)", x.move(0, 1), 0);
         Due.is("parish(0) behind it", x.parish(0), 1L | 2L | 16L | 1024L | 2048L);
+        // the ends: from yard 0, and to it
+        DunesWalked z = new DunesWalked();
+        Due.houses(z, 0);
+        Due.dune(z, 5, 0, 0, 1, 9);
+        Due.is("move(5, 0) from yard 0", z.move(5, 0), 1);
+        Due.is("move(5, 1) from yard 0", z.move(5, 1), 0);
+        z.yard(0, 0, 0);
+        z.put(0, 0, 39);
+        z.put(0, 1, 9);
+        Due.houses(z, 39, 5);
+        Due.is("move(5, 0) from yard 39", z.move(5, 0), 3900);
         // a yard that is sanded less is better than none that is free
         DunesWalked y = new DunesWalked();
         for (int i = 0; i < 40; i++) {

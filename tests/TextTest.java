@@ -14,6 +14,7 @@ public final class TextTest {
         faults();
         open();
         force();
+        oneBehindAnother();
         longest();
         Due.end();
     }
@@ -233,6 +234,9 @@ public final class TextTest {
         fault("walks 1, grows 1;needs 1;", 7);
         fault("walks hig;grows 1;needs 1;", 6);
         fault("walks highs;grows 1;needs 1;", 6);
+        fault("walks highz;grows 1;needs 1;", 6);
+        fault("walks ahigh;grows 1;needs 1;", 6);
+        fault("walks zhigh;grows 1;needs 1;", 6);
         fault("walks 1;grows `;needs 1;", 14);
         fault("walks 1;grows {;needs 1;", 14);
         fault("walks 1;grows :;needs 1;", 14);
@@ -337,6 +341,23 @@ public final class TextTest {
         Due.is("force(0)", x.force(0), 1);
         Due.is("count(6)", x.count(6), 0);
         Due.is("asks(2, 0)", x.asks(2, 0), 1);
+    }
+
+    /** What an earlier text or fault left behind does not come into a later one. */
+    private static void oneBehindAnother() {
+        DunesWalked x = new DunesWalked();
+        Due.dune(x, 0, 0, 5, 1, 9);
+        for (int t = 1; t < 6; t++) {
+            Due.feed(x, "walks 1+2*(3+4*(5+6*(7+high;");
+            Due.is("text() of a fault", x.text(), -127);
+            Due.law(x, "walks " + t + ";grows 2*" + t + "+(1+(1+1));needs 0 or " + t + ";");
+            Due.is("count(6)", x.count(6), t);
+            Due.is("walks of text " + t, x.asks(0, 0), t);
+            Due.is("grows of text " + t, x.asks(1, 0), 2 * t + 3);
+            Due.is("needs of text " + t, x.asks(2, 0), 1);
+        }
+        x.force(1);
+        Due.is("grows of text 1", x.asks(1, 0), 5);
     }
 
     private static void longest() {

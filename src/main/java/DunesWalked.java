@@ -49,7 +49,6 @@ public final class DunesWalked {
     /** THE IMAGE; null while there is none. */
     private Land kept;
     private final Sheet[] sheets = new Sheet[SHEETS];
-    private final int[] stack = new int[STACK];
     private final int[] yearsUnder = new int[YARDS];
 
     public DunesWalked() {
@@ -60,8 +59,8 @@ public final class DunesWalked {
         Law law = new Law(0, new int[] {2}, new int[] {1, 9, NAME_CLOVER, TIMES, MINUS}, new int[] {1});
         texts[0] = law;
         textsKnown = 1;
-        now = new Land(law, stack);
-        thought = new Land(law, stack);
+        now = new Land(law);
+        thought = new Land(law);
     }
 
     // ---- the parish, the law, dunes
@@ -145,11 +144,12 @@ public final class DunesWalked {
     }
 
     public int force(int t) {
-        if (!within(t, 0, textsKnown - 1)) {
+        Law law = lawAt(t);
+        if (law == null) {
             return BAD;
         }
         int was = now.law.number;
-        now.law = texts[t];
+        now.law = law;
         return was;
     }
 
@@ -439,7 +439,7 @@ public final class DunesWalked {
 
     public int whose(int s) {
         Sheet sheet = sheetAt(s);
-        int refusal = refusalOf(sheet);
+        int refusal = refusalOfSheet(sheet);
         if (refusal != FINE) {
             return refusal;
         }
@@ -462,9 +462,7 @@ public final class DunesWalked {
         }
         int bits = 0;
         for (int t = 0; t < textsKnown; t++) {
-            thought.become(now);
-            thought.law = texts[t];
-            if (firstOtherwise(sheet, thought.standing(d)) == NONE) {
+            if (fitsUnder(sheet, d, lawAt(t))) {
                 bits |= 1 << t;
             }
         }
@@ -518,7 +516,7 @@ public final class DunesWalked {
 
     public int image() {
         if (kept == null) {
-            kept = new Land(now.law, stack);
+            kept = new Land(now.law);
         }
         kept.become(now);
         return kept.many;
@@ -651,12 +649,17 @@ public final class DunesWalked {
         return what == OF_FRONT ? LAST_YARD : what == OF_LONG ? LONGEST : HIGHEST;
     }
 
+    /** Null: no such TEXT. */
+    private Law lawAt(int t) {
+        return t >= 0 && t < textsKnown && t < texts.length ? texts[t] : null;
+    }
+
     /** Null: no such SHEET. */
     private Sheet sheetAt(int s) {
         return s >= 0 && s < sheets.length ? sheets[s] : null;
     }
 
-    private static int refusalOf(Sheet sheet) {
+    private static int refusalOfSheet(Sheet sheet) {
         if (sheet == null) {
             return BAD;
         }
@@ -667,7 +670,7 @@ public final class DunesWalked {
     }
 
     private int refusalOf(Sheet sheet, int d) {
-        int refusal = refusalOf(sheet);
+        int refusal = refusalOfSheet(sheet);
         return refusal == FINE && now.standing(d) == null ? NO_SUCH : refusal;
     }
 
@@ -705,6 +708,15 @@ public final class DunesWalked {
         }
         dune.change(what, v);
         return firstOtherwise(sheet, dune) == NONE;
+    }
+
+    private boolean fitsUnder(Sheet sheet, int d, Law law) {
+        if (law == null) {
+            return false;
+        }
+        thought.become(now);
+        thought.law = law;
+        return firstOtherwise(sheet, thought.standing(d)) == NONE;
     }
 
     /** The first number of a sheet that a dune of the land in thought does not bear out. */
@@ -824,12 +836,10 @@ public final class DunesWalked {
         long clover;
         int year;
         Law law;
-        /** All lands of one object reckon on the same one, never two at once. */
-        private final int[] stack;
+        private final int[] stack = new int[STACK];
 
-        Land(Law law, int[] stack) {
+        Land(Law law) {
             this.law = law;
-            this.stack = stack;
             for (int d = 0; d < dunes.length; d++) {
                 dunes[d] = new Dune(d);
             }
