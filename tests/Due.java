@@ -2,15 +2,37 @@
 final class Due {
     private static int wrong = 0;
     private static int asked = 0;
+    private static String sentence = "";
 
     private Due() {
+    }
+
+    /** The sentence of the document by which the answers from here on are due; it is told with each that isn't. */
+    static void sentence(String words) {
+        sentence = words + ": ";
     }
 
     static void is(String call, long got, long want) {
         asked++;
         if (got != want) {
             wrong++;
-            System.out.println(call + " answered " + got + ", due is " + want);
+            System.out.println(sentence + call + " answered " + got + ", due is " + want);
+        }
+    }
+
+    /** Of texts that are unlike, only the lines that are unlike are printed. */
+    static void is(String what, String got, String want) {
+        asked++;
+        if (got.equals(want)) {
+            return;
+        }
+        wrong++;
+        String[] gotLines = got.split("\n"), wantLines = want.split("\n");
+        System.out.println(sentence + what + ": " + gotLines.length + " lines, due are " + wantLines.length);
+        for (int i = 0; i < gotLines.length && i < wantLines.length; i++) {
+            if (!gotLines[i].equals(wantLines[i])) {
+                System.out.println("  is  " + gotLines[i] + "\n  due " + wantLines[i]);
+            }
         }
     }
 
@@ -24,6 +46,32 @@ final class Due {
             }
             is("feed of " + text, x.feed(n, b[0], b[1], b[2], b[3], b[4]), i + n);
         }
+    }
+
+    /** A text that has its fault at this place, and leaves the tape empty and no text. */
+    static void fault(String text, int place) {
+        DunesWalked x = new DunesWalked();
+        feed(x, text);
+        is("text of " + text, x.text(), -100 - place);
+        is("the tape behind a fault", x.count(7), 0);
+        is("texts behind a fault", x.count(5), 1);
+    }
+
+    /** A text without a fault; it leaves the tape empty too. */
+    static void fine(String text) {
+        DunesWalked x = new DunesWalked();
+        feed(x, text);
+        is("text of " + text, x.text(), 1);
+        is("the tape behind a text", x.count(7), 0);
+        is("texts behind a text", x.count(5), 2);
+    }
+
+    /** What the text says of a dune, -99 .. 99, if it says this of how much it grows. */
+    static void says(DunesWalked x, String expression, int want) {
+        feed(x, "walks 0;grows " + expression + ";needs 0;");
+        int was = x.force(x.text());
+        is("the law ahead of it", was, 0);
+        is(expression, x.asks(1, 0), want);
     }
 
     /** A text that is read without a fault, as the law. */
@@ -57,9 +105,28 @@ final class Due {
         }
     }
 
+    /** An object with one dune, under a law by this text. */
+    static DunesWalked one(String text, int kind, int more, int front, int size, int high) {
+        DunesWalked x = new DunesWalked();
+        law(x, text);
+        is("dune", dune(x, kind, more, front, size, high), 0);
+        return x;
+    }
+
     /** A dune, told by its parts. */
     static int dune(DunesWalked x, int kind, int more, int front, int size, int high) {
         return x.dune(10 * kind + more, 10000 * front + 1000 * size + high);
+    }
+
+    /** By what both are to be divided for their lowest terms. */
+    static int common(int above, int below) {
+        int a = above, b = below;
+        while (b != 0) {
+            int rest = a % b;
+            a = b;
+            b = rest;
+        }
+        return a;
     }
 
     static void end() {

@@ -195,18 +195,11 @@ public final class TextTest {
     }
 
     private static void fault(String text, int place) {
-        DunesWalked x = new DunesWalked();
-        Due.feed(x, text);
-        Due.is("text of " + text, x.text(), -100 - place);
-        Due.is("the tape behind a fault", x.count(7), 0);
-        Due.is("texts behind a fault", x.count(5), 1);
+        Due.fault(text, place);
     }
 
     private static void fine(String text) {
-        DunesWalked x = new DunesWalked();
-        Due.feed(x, text);
-        Due.is("text of " + text, x.text(), 1);
-        Due.is("the tape behind a text", x.count(7), 0);
+        Due.fine(text);
     }
 
     private static void tokens() {

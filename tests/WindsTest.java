@@ -76,10 +76,7 @@ public final class WindsTest {
                 enough += x.drawn(seed, 0) >= a[2] ? 1 : 0;
             }
             if (a[0] + a[1] <= 100000) {
-                int common = a[1];
-                while (enough % common != 0 || a[1] % common != 0) {
-                    common--;
-                }
+                int common = Due.common(enough, a[1]);
                 Due.is("odds of seed " + a[0] + ", above", x.odds(a[0], a[1], a[2], 0), enough / common);
                 Due.is("odds of seed " + a[0] + ", below", x.odds(a[0], a[1], a[2], 1), a[1] / common);
             }
