@@ -5,11 +5,11 @@ import java.util.Random;
 
 /** No call throws, for any arguments in any state; what is asked changes nothing. */
 public final class AnyArgumentsTest {
-    private static final int[] EDGES = {Integer.MIN_VALUE, Integer.MIN_VALUE + 1, -1000, -101, -100, -20, -10, -2, -1, 0,
-        1, 2, 3, 5, 6, 9, 10, 11, 12, 15, 19, 20, 21, 25, 39, 40, 41, 59, 60, 63, 64, 97, 99, 100, 160, 255, 256, 999,
-        1000, 1001, 31050, 99999, 100000, 399099, 400000, Integer.MAX_VALUE - 1, Integer.MAX_VALUE};
-    private static final String[] ASKING = {"asks", "comes", "count", "drawn", "ends", "first", "grows", "hold", "judge",
-        "kinds", "laws", "move", "odds", "parish", "run", "share", "sow", "states", "taken", "told", "whose"};
+    private static final int[] EDGES = {Integer.MIN_VALUE, Integer.MIN_VALUE + 1, -1000, -101, -100, -20, -10, -2, -1,
+        0, 1, 2, 3, 5, 6, 9, 10, 11, 12, 15, 19, 20, 21, 25, 39, 40, 41, 59, 60, 63, 64, 97, 99, 100, 160, 255, 256,
+        999, 1000, 1001, 31050, 99999, 100000, 399099, 400000, Integer.MAX_VALUE - 1, Integer.MAX_VALUE};
+    private static final String[] ASKING = {"asks", "comes", "count", "drawn", "ends", "first", "grows", "hold",
+        "judge", "kinds", "laws", "move", "odds", "parish", "run", "share", "sow", "states", "taken", "told", "whose"};
 
     public static void main(String[] args) throws ReflectiveOperationException {
         Method[] calls = DunesWalked.class.getDeclaredMethods();

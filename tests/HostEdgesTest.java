@@ -1,4 +1,6 @@
-/** Promises 32 to 36: each sentence that names a bound or a refusal, by the last that is taken and the first that isn't. */
+import java.util.Arrays;
+
+/** Promises 32 to 36: each sentence of a bound or a refusal, by the last that is taken and the first that isn't. */
 public final class HostEdgesTest {
     private static final int MIN = Integer.MIN_VALUE, MAX = Integer.MAX_VALUE;
     private static final String STANDS = "walks 0;grows 0;needs 0;";
@@ -475,7 +477,7 @@ public final class HostEdgesTest {
             DunesWalked half = with(0, 2, numbers);
             Due.is("dunesBy to a half", half.dunesBy(0, 2, 0, 6), -12);
             Due.is("count(0)", half.count(0), ahead);
-            DunesWalked x = with(0, 2, java.util.Arrays.copyOf(numbers, 2 * ahead));
+            DunesWalked x = with(0, 2, Arrays.copyOf(numbers, 2 * ahead));
             Due.is("dunesBy to the end and on", x.dunesBy(0, 2, 0, ahead + 1), -12);
             Due.is("count(0)", x.count(0), ahead);
             Due.is("SAND", Long.bitCount(x.parish(2)), ahead);
@@ -498,7 +500,8 @@ public final class HostEdgesTest {
                 }
                 x.dune(10 * own + 9, 1009);
                 for (int kind = 0; kind < 6; kind++) {
-                    Due.is("taken(" + d + ", " + kind + ") of KIND " + own, x.taken(d, kind), isOne(own, kind) ? d : -13);
+                    int due = isOne(own, kind) ? d : -13;
+                    Due.is("taken(" + d + ", " + kind + ") of KIND " + own, x.taken(d, kind), due);
                 }
             }
         }

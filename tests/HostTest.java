@@ -11,27 +11,21 @@ public final class HostTest {
         Due.end();
     }
 
-    /** Number i of a sheet: the value by which a dune stands there behind a year, or 99 if there is none such. */
+    /** Number i of a sheet, told by dune 0 whose FRONT it is behind a year; 99 if it can't be one. Sheet 3 goes by it. */
     private static int at(DunesWalked x, int s, int i) {
-        for (int v = -1; v < 40; v++) {
-            if (isAt(x, s, i, v)) {
-                return v;
-            }
-        }
-        return 99;
-    }
-
-    /** Sheet 3 serves as a copy of one number, whose dune 0 is a still one or gone then. */
-    private static boolean isAt(DunesWalked x, int s, int i, int v) {
         for (int sort = 0; sort < 3; sort++) {
             x.sheet(3, sort, 1);
             if (x.copy(s, i, 3, 0, 1) == 1) {
                 break;
             }
         }
-        x.put(0, 2, v < 0 ? 0 : 50);
-        x.put(0, 0, v < 0 ? 0 : v);
-        return x.judge(3, 0) == -1;
+        x.put(0, 2, 0);
+        if (x.judge(3, 0) == -1) {
+            return -1;
+        }
+        x.put(0, 2, 50);
+        int front = x.states(3, 0, 0, 1);
+        return front < 0 ? 99 : front;
     }
 
     private static DunesWalked withStillDune() {

@@ -258,8 +258,8 @@ public final class RefusalsTest {
         seen.stays("taken(0, 2)", x -> x.taken(0, 2), -13);
     }
 
-    private static void due(String call, ToLongFunction<DunesWalked> asked, long answer, ToLongFunction<DunesWalked> bad,
-            long refusal) {
+    private static void due(String call, ToLongFunction<DunesWalked> asked, long answer,
+            ToLongFunction<DunesWalked> bad, long refusal) {
         Due.is(call, asked.applyAsLong(parish()), answer);
         Due.is(call + ", a number not as told", bad.applyAsLong(parish()), refusal);
     }

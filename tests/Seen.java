@@ -131,7 +131,7 @@ final class Seen {
         return size;
     }
 
-    /** Number i of a sheet, told by a still dune whose FRONT it is behind a year; the dunes and another sheet go by it. */
+    /** Number i of a sheet, told by a still dune whose FRONT it is; the dunes and another sheet are spoilt by it. */
     static int number(DunesWalked x, int s, int i) {
         int other = (s + 1) % 4;
         x.sheet(other, sortOf(x, s), 1);

@@ -1,4 +1,4 @@
-/** The Terms but for texts: each sentence that names a bound, by the last that it allows and the first that it doesn't. */
+/** The Terms but for texts: each sentence of a bound, by the last that it allows and the first that it doesn't. */
 public final class TermsTest {
     private static final int MIN = Integer.MIN_VALUE, MAX = Integer.MAX_VALUE;
     private static final String STANDS = "walks 0;grows 0;needs 0;";
@@ -29,6 +29,7 @@ public final class TermsTest {
         galesGrowMoreLess();
         galesNeedAsBlond();
         still();
+        walks0AtLeast();
         frontIs39AtMost();
         likeHighAreTakenUp();
         onAnyYard();
@@ -406,6 +407,19 @@ public final class TermsTest {
         }
     }
 
+    private static void walks0AtLeast() {
+        Due.sentence("WALKS 0 at least");
+        int[] low = {0, 0, 1, 0, 2, 0};
+        for (int kind = 0; kind < 6; kind++) {
+            DunesWalked x = Due.one("walks -9999;grows 0;needs 0;", kind, 9, 10, 1, 50);
+            Due.is("WALKS of KIND " + kind + ", HIGH 50", x.told(0, 6), low[kind]);
+            x.put(0, 2, 51);
+            Due.is("WALKS of KIND " + kind + ", HIGH 51", x.told(0, 6), 0);
+            x.year();
+            Due.is("FRONT of KIND " + kind, x.told(0, 0), 10);
+        }
+    }
+
     private static void frontIs39AtMost() {
         Due.sentence("FRONT is as much further as it WALKS (39 at most)");
         int[][] from = {{29, 38}, {30, 39}, {31, 39}, {38, 39}, {39, 39}};
@@ -552,8 +566,7 @@ public final class TermsTest {
 
     private static void allAsItIsThen() {
         Due.sentence("(All told as it is then.)");
-        DunesWalked x = Due.one("walks at < 10;grows (at = 10) * 3 + (high = 30) * 4;needs (at = 10) * (high = 37) * 38;",
-            0, 0, 9, 1, 30);
+        DunesWalked x = Due.one("walks at<10;grows (at=10)*3+(high=30)*4;needs (at=10)*(high=37)*38;", 0, 0, 9, 1, 30);
         Due.is("run(1, 0): GROWS at 10 by HIGH 30, NEEDS at 10 by HIGH 37", x.run(1, 0), 0);
         DunesWalked y = Due.one("walks 1;grows (high = 35) * 4;needs 0;", 0, 0, 9, 1, 30);
         Due.dune(y, 5, 0, 10, 1, 10);

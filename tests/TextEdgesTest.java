@@ -1,4 +1,4 @@
-/** The Terms of texts: each sentence that names a bound, by the last that it allows and the first that it doesn't. */
+/** The Terms of texts: each sentence of a bound, by the last that it allows and the first that it doesn't. */
 public final class TextEdgesTest {
     private static final String BEHIND = ";grows 1;needs 1;";
     private static final String[] KEYS = {"walks", "grows", "needs", "or", "and", "not"};

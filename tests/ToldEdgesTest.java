@@ -1,6 +1,6 @@
 import java.util.function.Supplier;
 
-/** Promises 22 to 31: each sentence that names a bound or a refusal, by the last that is taken and the first that isn't. */
+/** Promises 22 to 31: each sentence of a bound or a refusal, by the last that is taken and the first that isn't. */
 public final class ToldEdgesTest {
     private static final int MIN = Integer.MIN_VALUE, MAX = Integer.MAX_VALUE;
     private static final long NO = -4611686018427387904L;
@@ -513,7 +513,7 @@ public final class ToldEdgesTest {
     }
 
     private static void windsByBothLots() {
-        Due.sentence("LOTS: the first is (SEED and 1) times 48271 modulo 2147483647, each further one the last times 48271");
+        Due.sentence("LOTS: the first is (SEED and 1) times 48271 modulo 2147483647, each further one the last");
         // each yard's house tells where the one dune stood behind the years
         for (int seed = 0; seed < 100000; seed += 1111) {
             for (int y = 0; y < 18; y += 5) {

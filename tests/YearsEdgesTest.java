@@ -1,4 +1,4 @@
-/** Promises 13 to 21: each sentence that names a bound or a refusal, by the last that is taken and the first that isn't. */
+/** Promises 13 to 21: each sentence of a bound or a refusal, by the last that is taken and the first that isn't. */
 public final class YearsEdgesTest {
     private static final int MIN = Integer.MIN_VALUE, MAX = Integer.MAX_VALUE;
     private static final long NO = -4611686018427387904L;
