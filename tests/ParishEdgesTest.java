@@ -89,6 +89,11 @@ public final class ParishEdgesTest {
         }
         Due.is("count(3) of all", x.count(3), 40);
         Due.is("count(4) of all", x.count(4), 40);
+        x.yard(0, 0, 0);
+        x.yard(38, 1, 0);
+        x.yard(39, 1, 0);
+        Due.is("count(3) of all but one", x.count(3), 39);
+        Due.is("count(4) of all but two", x.count(4), 38);
         for (int i = 0; i < 32; i++) {
             x.feed(5, 0, 0, 0, 0, 0);
         }

@@ -27,6 +27,7 @@ public final class TextEdgesTest {
         endsTooEarly();
         bytesThatBeginNone();
         neitherKeyNorName();
+        everyLetterOfAWord();
         tooLongNumbers();
         sixthBracket();
         sixthNot();
@@ -35,6 +36,7 @@ public final class TextEdgesTest {
         openTillItsBracket();
         openTillWhatItBelongsTo();
         sixTexts();
+        longTextsOneBehindAnother();
         textZero();
         saysWalks0To9();
         saysGrowsTo99();
@@ -399,6 +401,26 @@ public final class TextEdgesTest {
         Due.fault("walk 1" + BEHIND, 0);
     }
 
+    private static void everyLetterOfAWord() {
+        Due.sentence("FAULT: of a WORD that is neither KEY nor NAME, by any one letter");
+        String[] texts = {"walks 1;grows 1;needs 1 or 1 and not 1;",
+            "walks high + at;grows long + clover;needs year + more;"};
+        for (String text : texts) {
+            Due.fine(text);
+            for (int i = 0; i < text.length(); i++) {
+                char c = text.charAt(i);
+                if (c >= 'a' && c <= 'z') {
+                    int begin = i;
+                    while (begin > 0 && Character.isLetter(text.charAt(begin - 1))) {
+                        begin--;
+                    }
+                    char other = c == 'z' ? 'a' : (char) (c + 1);
+                    Due.fault(text.substring(0, i) + other + text.substring(i + 1), begin);
+                }
+            }
+        }
+    }
+
     private static void tooLongNumbers() {
         Due.sentence("FAULT: of a NUMBER that is too long");
         Due.fine("walks 1 + 9999" + BEHIND);
@@ -510,6 +532,28 @@ public final class TextEdgesTest {
             Due.is("text " + t + " says", x.asks(0, 0), t);
         }
         Due.is("force(6)", x.force(6), -2);
+    }
+
+    /** A text that fills the tape: sums of so many ones, and of 68 less these two. */
+    private static String ones(int walks, int grows) {
+        return "walks 0" + "+1".repeat(walks) + ";grows 0" + "+1".repeat(grows) + ";needs 0"
+            + "+1".repeat(68 - walks - grows) + ";";
+    }
+
+    private static void longTextsOneBehindAnother() {
+        Due.sentence("THE TAPE is empty then (by a FAULT, too): a text has nothing of the ones ahead of it");
+        DunesWalked x = dune(3, 20, 2, 50);
+        for (int t = 1; t < 6; t++) {
+            Due.feed(x, ones(9, 9).substring(0, 159));
+            Due.is("text() of a long fault", x.text(), -259);
+            Due.law(x, ones(t, 40 + t));
+        }
+        for (int t = 1; t < 6; t++) {
+            x.force(t);
+            Due.is("walks of text " + t, x.asks(0, 0), t);
+            Due.is("grows of text " + t, x.asks(1, 0), 40 + t);
+            Due.is("needs of text " + t, x.asks(2, 0), 28 - 2 * t);
+        }
     }
 
     private static void textZero() {

@@ -587,6 +587,10 @@ public final class YearsEdgesTest {
             Due.houses(x, 2 + 5 * d);
             hold(x, 5, d, 0);
             Due.is("count(1) behind it", x.count(1), 6);
+            // also one that will be GONE by then
+            DunesWalked y = six("walks 0;grows 0;needs 99*(year=3);");
+            Due.houses(y, 2 + 5 * d);
+            hold(y, 5, d, 0);
         }
     }
 
