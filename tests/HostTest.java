@@ -11,7 +11,7 @@ public final class HostTest {
         Due.end();
     }
 
-    /** Number i of a sheet, told by dune 0 whose FRONT it is behind a year; 99 if it can't be one. Sheet 3 goes by it. */
+    /** Number i of a sheet, told by dune 0 whose FRONT it is behind a year; 99 if it is none. Sheet 3 goes by it. */
     private static int at(DunesWalked x, int s, int i) {
         for (int sort = 0; sort < 3; sort++) {
             x.sheet(3, sort, 1);

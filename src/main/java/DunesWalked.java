@@ -1233,11 +1233,11 @@ public final class DunesWalked {
         }
 
         private boolean spells(String word) {
-            if (next - place != word.length()) {
+            if (next - place != word.length() || place < 0 || next > bytes.length) {
                 return false;
             }
             for (int i = 0; i < word.length(); i++) {
-                if (byteAt(place + i) != word.charAt(i)) {
+                if (bytes[place + i] != word.charAt(i)) {
                     return false;
                 }
             }
